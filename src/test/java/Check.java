@@ -38,7 +38,7 @@ final class Check {
         same(what + ": the digest behind the refused call", x.digest(), before);
     }
 
-    static void fail(String message) {
+    static synchronized void fail(String message) {
         wrong++;
         if (wrong <= 50) {
             System.out.println("wrong: " + message);

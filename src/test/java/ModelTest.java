@@ -1,5 +1,6 @@
 import java.util.Random;
 import java.util.function.LongSupplier;
+import java.util.stream.IntStream;
 
 /** Random runs of 512 calls, each answer compared with the Model's. */
 public final class ModelTest {
@@ -22,9 +23,7 @@ public final class ModelTest {
     }
 
     public static void main(String[] args) {
-        for (int seed = 0; seed < RUNS; seed++) {
-            new ModelTest(seed).run();
-        }
+        IntStream.range(0, RUNS).parallel().forEach(seed -> new ModelTest(seed).run());
         compareTexts();
         Check.end();
     }
