@@ -45,8 +45,8 @@ public final class FaceTest {
         "int undo() IllegalStateException",
         "long digest()"};
 
-    private static final int[] HOSTILE = {Integer.MIN_VALUE, Integer.MIN_VALUE + 1, -268435456, -100, -2, -1, 0, 1, 2, 3,
-        4, 5, 6, 7, 8, 9, 19, 20, 27, 28, 31, 32, 59, 60, 61, 99, 100, 112, 119, 127, 128, 268435455, 268435456,
+    private static final int[] HOSTILE = {Integer.MIN_VALUE, Integer.MIN_VALUE + 1, -268435456, -100, -2, -1, 0, 1, 2,
+        3, 4, 5, 6, 7, 8, 9, 19, 20, 27, 28, 31, 32, 59, 60, 61, 99, 100, 112, 119, 127, 128, 268435455, 268435456,
         Integer.MAX_VALUE - 1, Integer.MAX_VALUE};
 
     private FaceTest() {

@@ -22,6 +22,7 @@ public final class PromisesTest {
         plan();
         planWeek();
         planWeekChoosesOrders();
+        planWeekPassesOver();
         planWeekChoosesMeetings();
         planWeekEndsAtSixty();
         cancel();
@@ -303,6 +304,19 @@ public final class PromisesTest {
         meetingIs("9: the last one", x, 4, 0, 0, 3);
     }
 
+    private static void planWeekPassesOver() {
+        MeetingOrders x = new MeetingOrders();
+        x.addVenue(1);
+        x.addEscort(ALL, 20);
+        x.addOrder(1, 0);
+        x.addOrder(1, 1);
+        x.addOrder(2, 0);
+        x.addOrder(1, 1);
+        Check.same("9: those are passed over for which none can be planned", x.planWeek(0), 2);
+        meetingIs("9: the first of the others", x, 0, 1, 0, 0);
+        meetingIs("9: the second of the others", x, 1, 3, 0, 1);
+    }
+
     private static void planWeekChoosesMeetings() {
         MeetingOrders x = new MeetingOrders();
         x.addVenue(1);
@@ -376,6 +390,13 @@ public final class PromisesTest {
         x.undo();
         Check.same("10: by undo() it is kept again", x.cancel(2), 3);
         Check.same("10: a number is free again by undo()", cancelledByUndo(), 0);
+        MeetingOrders y = large();
+        y.plan(0, 0, 0, 0, 0);
+        y.plan(5, 3, 9, 4, 2);
+        y.plan(7, 1, 27, 5, 3);
+        y.cancel(0);
+        meetingIs("10: nothing of the next one changes", y, 1, 5, 3, 9, 4, 2, 0);
+        meetingIs("10: nothing of the last one changes", y, 2, 7, 1, 27, 5, 3, 0);
     }
 
     private static int cancelledByUndo() {
@@ -477,6 +498,8 @@ public final class PromisesTest {
         for (int what = 0; what <= 6; what++) {
             Check.same("13: then order(1, " + what + ")", x.order(1, what), then[what]);
         }
+        x.plan(1, 19, 0, 0, 0);
+        Check.same("13: planned for the last week", x.order(1, 4), 3);
         Check.refused(x, "13: what -1", ARGUMENT, () -> x.order(0, -1));
         Check.refused(x, "13: what 7", ARGUMENT, () -> x.order(0, 7));
         Check.refused(x, "13: order 2", INDEX, () -> x.order(2, 0));
@@ -906,6 +929,17 @@ public final class PromisesTest {
         write(y, "");
         Check.same("28: no orders", y.carryOut(), 0);
         Check.same("28: saved all the same", y.undo(), 0);
+        write(y, "w;".repeat(19) + "p19;".repeat(15));
+        Check.same("28: many orders", y.carryOut(), 34);
+        MeetingOrders z = large();
+        write(z, "c719:0;w;w;");
+        Check.same("28: the highest order", z.carryOut(), 3);
+        Check.same("28: its hours", z.hours(7, 19), 0);
+        write(z, "w;");
+        Check.same("28: nothing of an earlier text is carried out", z.carryOut(), 1);
+        Check.same("28: one week more", z.value(4), 3);
+        write(z, "w");
+        Check.same("28: nothing of an earlier text is read", z.carryOut(), -11);
     }
 
     private static void carryOutStops() {
@@ -990,6 +1024,10 @@ public final class PromisesTest {
         Check.same("29: the next number goes back", y.value(9), 0);
         Check.same("29: and goes on from there", y.planWeek(0), 2);
         Check.same("29: one more saved", y.undo(), 1);
+        y.planWeek(0);
+        y.tell(1, false);
+        y.undo();
+        Check.same("29: not missed", y.order(0, 3), 0);
         MeetingOrders z = new MeetingOrders();
         z.planWeek(0);
         Check.same("29: a call that changes nothing saves, too", z.undo(), 0);
