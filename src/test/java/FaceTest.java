@@ -8,9 +8,11 @@ import java.nio.file.Files;
 import java.nio.file.Path;
 import java.util.ArrayList;
 import java.util.Arrays;
-import java.util.Collections;
+import java.util.Comparator;
 import java.util.List;
 import java.util.Random;
+import java.util.Set;
+import java.util.TreeSet;
 
 /** The names and kinds of the calls, and that hostile arguments never make the machine throw. */
 public final class FaceTest {
@@ -49,10 +51,14 @@ public final class FaceTest {
         3, 4, 5, 6, 7, 8, 9, 19, 20, 27, 28, 31, 32, 59, 60, 61, 99, 100, 112, 119, 127, 128, 268435455, 268435456,
         Integer.MAX_VALUE - 1, Integer.MAX_VALUE};
 
+    private static final List<String> THROWN_BY_CODE = List.of("IllegalStateException", "IllegalArgumentException",
+            "IndexOutOfBoundsException", "UnsupportedOperationException", "NoSuchElementException", "RuntimeException");
+
     private FaceTest() {
     }
 
     public static void main(String[] args) throws Exception {
+        Check.endWithin(120);
         face();
         source();
         Random random = new Random(11);
@@ -66,76 +72,110 @@ public final class FaceTest {
         Class<?> c = MeetingOrders.class;
         Check.isTrue("the class is public and final",
                 Modifier.isPublic(c.getModifiers()) && Modifier.isFinal(c.getModifiers()));
-        List<String> due = new ArrayList<>(Arrays.asList(FACE));
-        List<String> got = new ArrayList<>();
-        List<String> names = new ArrayList<>();
-        for (Method m : c.getDeclaredMethods()) {
-            if (Modifier.isPrivate(m.getModifiers()) || m.isSynthetic()) {
-                continue;
-            }
-            got.add(signature(m));
-            names.add(m.getName());
-            Check.isTrue(m + " is public and no more", m.getModifiers() == Modifier.PUBLIC);
+        Set<String> due = new TreeSet<>();
+        for (String row : FACE) {
+            due.add(call(row));
         }
-        Collections.sort(due);
-        Collections.sort(got);
-        Check.isTrue("the calls are " + got, got.equals(due));
-        for (Class<?> inner : c.getDeclaredClasses()) {
-            Check.isTrue(inner + " is static", Modifier.isStatic(inner.getModifiers()));
-            for (Method m : inner.getDeclaredMethods()) {
-                Check.isTrue(m + " bears the name of a call", !names.contains(m.getName()));
+        Set<String> got = new TreeSet<>();
+        for (Method m : c.getDeclaredMethods()) {
+            if (!Modifier.isPrivate(m.getModifiers()) && !m.isSynthetic()) {
+                got.add(call(m));
+                Check.isTrue(m + " is public and no more", m.getModifiers() == Modifier.PUBLIC);
+                Check.isTrue(m + " names exceptions that the document does not", exceptions(m).containsAll(named(m)));
             }
+        }
+        Check.same("the calls", got.toString(), due.toString());
+        Constructor<?>[] makers = c.getDeclaredConstructors();
+        Check.isTrue("one public constructor without arguments", makers.length == 1
+                && Modifier.isPublic(makers[0].getModifiers()) && makers[0].getParameterCount() == 0);
+        hidden(c);
+    }
+
+    /** What is not of the face is private, and bears no name of it. */
+    private static void hidden(Class<?> c) {
+        Set<String> names = new TreeSet<>();
+        for (String row : FACE) {
+            names.add(call(row).replaceAll("^[a-z]+ |[(].*", ""));
+        }
+        for (Field f : c.getDeclaredFields()) {
+            Check.isTrue(f + " is private", Modifier.isPrivate(f.getModifiers()) || f.isSynthetic()
+                    || f.getName().equals("NONE"));
         }
         for (Method m : c.getDeclaredMethods()) {
             Check.isTrue(m + " bears the name of a call",
                     !Modifier.isPrivate(m.getModifiers()) || !names.contains(m.getName()));
         }
-        for (Field f : c.getDeclaredFields()) {
-            Check.isTrue(f + " is private", Modifier.isPrivate(f.getModifiers()) || f.getName().equals("NONE"));
+        for (Class<?> inner : c.getDeclaredClasses()) {
+            Check.isTrue(inner + " is private or package-visible",
+                    !Modifier.isPublic(inner.getModifiers()) && !Modifier.isProtected(inner.getModifiers()));
+            for (Method m : inner.getDeclaredMethods()) {
+                Check.isTrue(m + " bears the name of a call",
+                        !Modifier.isPrivate(m.getModifiers()) || !names.contains(m.getName()));
+            }
         }
-        Constructor<?>[] makers = c.getDeclaredConstructors();
-        Check.isTrue("one public constructor without arguments", makers.length == 1
-                && Modifier.isPublic(makers[0].getModifiers()) && makers[0].getParameterCount() == 0);
     }
 
-    private static String signature(Method m) {
-        StringBuilder s = new StringBuilder(m.getReturnType().getSimpleName() + " " + m.getName() + "(");
-        for (int i = 0; i < m.getParameterCount(); i++) {
-            s.append(i == 0 ? "" : ",").append(m.getParameterTypes()[i].getSimpleName());
+    private static String call(String row) {
+        return row.replaceAll("[)].*", ")");
+    }
+
+    private static String call(Method m) {
+        List<String> types = new ArrayList<>();
+        for (Class<?> type : m.getParameterTypes()) {
+            types.add(type.getSimpleName());
         }
-        s.append(")");
+        return m.getReturnType().getSimpleName() + " " + m.getName() + "(" + String.join(",", types) + ")";
+    }
+
+    /** The exceptions that the document names for this call. */
+    private static List<String> exceptions(Method m) {
+        for (String row : FACE) {
+            if (call(row).equals(call(m))) {
+                return Arrays.asList(row.substring(row.indexOf(')') + 1).trim().split(" "));
+            }
+        }
+        return List.of();
+    }
+
+    private static List<String> named(Method m) {
+        List<String> names = new ArrayList<>();
         for (Class<?> e : m.getExceptionTypes()) {
-            s.append(" ").append(e.getSimpleName());
+            names.add(e.getSimpleName());
         }
-        return s.toString();
+        return names;
     }
 
-    /** Words that ../shared/LANGUAGE.md leaves out, or that would hide what the machine throws. */
+    /** Words that ../shared/LANGUAGE.md leaves out, wherever they stand in the code. */
     private static void source() throws IOException {
         String source = Files.readString(Path.of("src/main/java/MeetingOrders.java"));
-        for (String word : new String[] {"import ", "package ", "try ", "catch", "finally", "->", "::", "assert ",
-            "synchronized", "Exact(", "toString(", "hashCode(", "equals(", "\t"}) {
-            Check.isTrue("the source holds " + word, !source.contains(word));
+        String code = source.replaceAll("(?s)/[*].*?[*]/", " ").replaceAll("//[^\n]*", " ")
+                .replaceAll("\"([^\"\\\\\n]|\\\\.)*\"", "0");
+        for (String word : new String[] {"package ", "finally", "::", "assert ", "synchronized", "Exact(", "hashCode(",
+            "ArrayIndexOutOfBounds", "NullPointer", "ClassCast", "NegativeArraySize", "ArrayStore", "Throwable"}) {
+            Check.isTrue("the source holds " + word, !code.contains(word));
         }
         for (int i = 0; i < source.length(); i++) {
             Check.isTrue("the source holds a sign beyond 127", source.charAt(i) < 128);
         }
     }
 
-    /** More than 512 calls: what they answer is free then, but not that the machine throws. */
+    /** Behind 512 calls the answers are free, but not that the machine throws. */
     private static void hostileRun(Random random) throws IllegalAccessException {
         MeetingOrders x = new MeetingOrders();
-        Method[] calls = MeetingOrders.class.getMethods();
-        Arrays.sort(calls, (a, b) -> signature(a).compareTo(signature(b)));
-        for (int i = 0; i < 1000; i++) {
-            Method m = calls[random.nextInt(calls.length)];
-            if (m.getDeclaringClass() == MeetingOrders.class) {
-                hostileCall(x, m, random);
+        List<Method> calls = new ArrayList<>();
+        for (Method m : MeetingOrders.class.getDeclaredMethods()) {
+            if (Modifier.isPublic(m.getModifiers())) {
+                calls.add(m);
             }
+        }
+        calls.sort(Comparator.comparing(m -> call(m)));
+        for (int i = 0; i < 1000; i++) {
+            hostileCall(x, calls.get(random.nextInt(calls.size())), random, i < 512);
         }
     }
 
-    private static void hostileCall(MeetingOrders x, Method m, Random random) throws IllegalAccessException {
+    private static void hostileCall(MeetingOrders x, Method m, Random random, boolean promised)
+            throws IllegalAccessException {
         Object[] arguments = new Object[m.getParameterCount()];
         for (int i = 0; i < arguments.length; i++) {
             arguments[i] = m.getParameterTypes()[i] == boolean.class ? (Object) random.nextBoolean()
@@ -144,8 +184,9 @@ public final class FaceTest {
         try {
             m.invoke(x, arguments);
         } catch (InvocationTargetException e) {
-            boolean listed = Arrays.asList(m.getExceptionTypes()).contains(e.getCause().getClass());
-            Check.isTrue(m.getName() + Arrays.toString(arguments) + " threw " + e.getCause(), listed);
+            String kind = e.getCause().getClass().getSimpleName();
+            boolean right = promised ? exceptions(m).contains(kind) : THROWN_BY_CODE.contains(kind);
+            Check.isTrue(m.getName() + Arrays.toString(arguments) + " threw " + e.getCause(), right);
         }
     }
 }

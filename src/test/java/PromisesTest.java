@@ -1,17 +1,18 @@
 import java.util.function.Consumer;
 import java.util.function.LongSupplier;
+import java.util.function.Supplier;
 
 /** Each promise by its number: ordinary inputs, the edges that the document names, wrong inputs. */
 public final class PromisesTest {
     private static final Class<?> INDEX = IndexOutOfBoundsException.class;
     private static final Class<?> ARGUMENT = IllegalArgumentException.class;
     private static final Class<?> STATE = IllegalStateException.class;
-    private static final int ALL = 268435455;
 
     private PromisesTest() {
     }
 
     public static void main(String[] args) {
+        Check.endWithin(120);
         newObject();
         addOrder();
         change();
@@ -53,44 +54,6 @@ public final class PromisesTest {
         undoables();
         digest();
         Check.end();
-    }
-
-    /** A venue with two rooms, an escort with all slots, and an order with two hours. */
-    private static MeetingOrders small() {
-        MeetingOrders x = new MeetingOrders();
-        x.addVenue(2);
-        x.addEscort(ALL, 20);
-        x.addOrder(2, 1);
-        return x;
-    }
-
-    /** Room for all: eight orders with seven hours, six escorts with all slots, five venues with four rooms. */
-    private static MeetingOrders large() {
-        MeetingOrders x = new MeetingOrders();
-        for (int i = 0; i < 5; i++) {
-            x.addVenue(4);
-        }
-        for (int i = 0; i < 6; i++) {
-            x.addEscort(ALL, 20);
-        }
-        for (int i = 0; i < 8; i++) {
-            x.addOrder(7, 31);
-        }
-        return x;
-    }
-
-    private static MeetingOrders atWeek(MeetingOrders x, int week) {
-        while (x.value(4) < week) {
-            x.endWeek();
-        }
-        return x;
-    }
-
-    private static void write(MeetingOrders x, String text) {
-        x.clearText();
-        for (int i = 0; i < text.length(); i++) {
-            x.append(text.charAt(i));
-        }
     }
 
     private static void meetingIs(String when, MeetingOrders x, int number, int... facts) {
@@ -141,7 +104,7 @@ public final class PromisesTest {
 
     // Promise 3
     private static void change() {
-        MeetingOrders x = small();
+        MeetingOrders x = Made.small();
         Check.same("3: the hours before", x.change(0, 5, 7), 2);
         Check.same("3: the week before", x.hours(0, 4), 2);
         Check.same("3: the week", x.hours(0, 5), 7);
@@ -167,7 +130,7 @@ public final class PromisesTest {
 
     // Promise 4
     private static void allow() {
-        MeetingOrders x = small();
+        MeetingOrders x = Made.small();
         x.addVenue(1);
         x.plan(0, 0, 0, 0, 0);
         Check.same("4: the set before", x.allow(0, 2), 1);
@@ -186,13 +149,13 @@ public final class PromisesTest {
     private static void addEscort() {
         MeetingOrders x = new MeetingOrders();
         Check.same("5: the first escort", x.addEscort(0, 1), 0);
-        Check.same("5: the second escort", x.addEscort(ALL, 20), 1);
+        Check.same("5: the second escort", x.addEscort(Made.ALL, 20), 1);
         Check.same("5: no slots", x.escort(0, 0), 0);
         Check.same("5: limit 1", x.escort(0, 1), 1);
-        Check.same("5: all slots", x.escort(1, 0), ALL);
+        Check.same("5: all slots", x.escort(1, 0), Made.ALL);
         Check.same("5: limit 20", x.escort(1, 1), 20);
         Check.refused(x, "5: slots -1", ARGUMENT, () -> x.addEscort(-1, 1));
-        Check.refused(x, "5: slots 2^28", ARGUMENT, () -> x.addEscort(ALL + 1, 1));
+        Check.refused(x, "5: slots 2^28", ARGUMENT, () -> x.addEscort(Made.ALL + 1, 1));
         Check.refused(x, "5: limit 0", ARGUMENT, () -> x.addEscort(0, 0));
         Check.refused(x, "5: limit 21", ARGUMENT, () -> x.addEscort(0, 21));
         for (int i = 2; i < 6; i++) {
@@ -205,18 +168,18 @@ public final class PromisesTest {
 
     // Promise 6
     private static void setSlots() {
-        MeetingOrders x = small();
+        MeetingOrders x = Made.small();
         x.plan(0, 0, 3, 0, 0);
-        Check.same("6: the set before", x.setSlots(0, 16), ALL);
+        Check.same("6: the set before", x.setSlots(0, 16), Made.ALL);
         Check.same("6: the new set", x.escort(0, 0), 16);
         Check.same("6: meetings stay", x.value(3), 1);
         Check.same("6: a slot that the escort has", x.why(0, 0, 4, 0, 0), 0);
         Check.same("6: a slot that the escort has no more", x.why(0, 0, 5, 0, 0), 4);
         Check.same("6: another week is the same", x.why(0, 7, 5, 0, 0), 4);
         Check.same("6: none", x.setSlots(0, 0), 16);
-        Check.same("6: all", x.setSlots(0, ALL), 0);
+        Check.same("6: all", x.setSlots(0, Made.ALL), 0);
         Check.refused(x, "6: slots -1", ARGUMENT, () -> x.setSlots(0, -1));
-        Check.refused(x, "6: slots 2^28", ARGUMENT, () -> x.setSlots(0, ALL + 1));
+        Check.refused(x, "6: slots 2^28", ARGUMENT, () -> x.setSlots(0, Made.ALL + 1));
         Check.refused(x, "6: escort 1", INDEX, () -> x.setSlots(1, 0));
         Check.refused(x, "6: escort -1 and slots -1", INDEX, () -> x.setSlots(-1, -1));
     }
@@ -238,7 +201,7 @@ public final class PromisesTest {
 
     // Promise 8
     private static void plan() {
-        MeetingOrders x = small();
+        MeetingOrders x = Made.small();
         Check.same("8: the first meeting", x.plan(0, 0, 0, 0, 0), 0);
         Check.same("8: a later week", x.plan(0, 19, 27, 0, 0), 1);
         Check.same("8: more than is owed", x.plan(0, 0, 27, 0, 0), 2);
@@ -258,7 +221,7 @@ public final class PromisesTest {
         x.endWeek();
         Check.refused(x, "8: a past week", STATE, () -> x.plan(0, 0, 12, 0, 0));
         Check.refused(x, "8: a past week, the slot wrong", ARGUMENT, () -> x.plan(0, 0, 28, 0, 0));
-        MeetingOrders y = large();
+        MeetingOrders y = Made.large();
         y.planWeek(0);
         y.planWeek(1);
         Check.refused(y, "8: the meeting 60", STATE, () -> y.plan(0, 2, 0, 0, 0));
@@ -269,7 +232,7 @@ public final class PromisesTest {
 
     // Promise 9
     private static void planWeek() {
-        MeetingOrders x = small();
+        MeetingOrders x = Made.small();
         Check.same("9: planned", x.planWeek(0), 2);
         Check.same("9: nothing is owed", x.planWeek(0), 0);
         meetingIs("9: the lowest slot", x, 0, 0, 0, 0, 0, 0, 0);
@@ -282,7 +245,7 @@ public final class PromisesTest {
         x.endWeek();
         Check.refused(x, "9: a past week", STATE, () -> x.planWeek(0));
         Check.same("9: nothing to plan with", new MeetingOrders().planWeek(19), 0);
-        MeetingOrders y = atWeek(small(), 19);
+        MeetingOrders y = Made.atWeek(Made.small(), 19);
         Check.same("9: one meeting a day at most", y.planWeek(19), 7);
         Check.same("9: the rest stays owed", y.owed(0, 19), 33);
     }
@@ -307,7 +270,7 @@ public final class PromisesTest {
     private static void planWeekPassesOver() {
         MeetingOrders x = new MeetingOrders();
         x.addVenue(1);
-        x.addEscort(ALL, 20);
+        x.addEscort(Made.ALL, 20);
         x.addOrder(1, 0);
         x.addOrder(1, 1);
         x.addOrder(2, 0);
@@ -341,8 +304,8 @@ public final class PromisesTest {
         MeetingOrders y = new MeetingOrders();
         y.addVenue(4);
         y.addEscort(1, 1);
-        y.addEscort(ALL, 2);
-        y.addEscort(ALL, 2);
+        y.addEscort(Made.ALL, 2);
+        y.addEscort(Made.ALL, 2);
         y.addOrder(5, 1);
         Check.same("9: limits end it", y.planWeek(0), 5);
         meetingIs("9: of several the lowest escort", y, 0, 0, 0, 0, 0);
@@ -356,7 +319,7 @@ public final class PromisesTest {
     }
 
     private static void planWeekEndsAtSixty() {
-        MeetingOrders x = large();
+        MeetingOrders x = Made.large();
         Check.same("9: a day for each order and day", x.planWeek(0), 56);
         Check.same("9: 60 are kept", x.planWeek(1), 4);
         Check.same("9: still 60", x.planWeek(2), 0);
@@ -365,7 +328,7 @@ public final class PromisesTest {
 
     // Promise 10
     private static void cancel() {
-        MeetingOrders x = small();
+        MeetingOrders x = Made.small();
         x.plan(0, 0, 0, 0, 0);
         x.plan(0, 7, 0, 0, 0);
         x.plan(0, 3, 0, 0, 0);
@@ -390,7 +353,7 @@ public final class PromisesTest {
         x.undo();
         Check.same("10: by undo() it is kept again", x.cancel(2), 3);
         Check.same("10: a number is free again by undo()", cancelledByUndo(), 0);
-        MeetingOrders y = large();
+        MeetingOrders y = Made.large();
         y.plan(0, 0, 0, 0, 0);
         y.plan(5, 3, 9, 4, 2);
         y.plan(7, 1, 27, 5, 3);
@@ -400,7 +363,7 @@ public final class PromisesTest {
     }
 
     private static int cancelledByUndo() {
-        MeetingOrders x = small();
+        MeetingOrders x = Made.small();
         x.plan(0, 0, 0, 0, 0);
         x.undo();
         return x.plan(0, 0, 0, 0, 0);
@@ -408,7 +371,7 @@ public final class PromisesTest {
 
     // Promise 11
     private static void tell() {
-        MeetingOrders x = small();
+        MeetingOrders x = Made.small();
         x.planWeek(0);
         x.plan(0, 1, 0, 0, 0);
         Check.same("11: held", x.tell(0, true), 0);
@@ -427,7 +390,7 @@ public final class PromisesTest {
 
     // Promise 12
     private static void endWeek() {
-        MeetingOrders x = small();
+        MeetingOrders x = Made.small();
         x.planWeek(0);
         x.plan(0, 1, 0, 0, 0);
         x.plan(0, 0, 8, 0, 0);
@@ -440,18 +403,18 @@ public final class PromisesTest {
         Check.same("12: missed so far", x.value(7), 2);
         Check.same("12: a week with one", x.endWeek(), 1);
         Check.same("12: a week with none", x.endWeek(), 0);
-        atWeek(x, 19);
+        Made.atWeek(x, 19);
         Check.refused(x, "12: the last week", STATE, x::endWeek);
     }
 
     private static void endWeekDropsMeetings() {
-        MeetingOrders x = small();
+        MeetingOrders x = Made.small();
         x.plan(0, 1, 0, 0, 0);
         x.plan(0, 0, 0, 0, 0);
         x.plan(0, 0, 4, 0, 0);
         x.plan(0, 2, 0, 0, 0);
         x.tell(1, true);
-        atWeek(x, 4);
+        Made.atWeek(x, 4);
         Check.same("12: 4 weeks before is kept", x.value(3), 4);
         Check.same("12: its rooms are taken", x.freeRooms(0, 0, 0), 1);
         x.endWeek();
@@ -476,7 +439,7 @@ public final class PromisesTest {
 
     // Promise 13
     private static void order() {
-        MeetingOrders x = small();
+        MeetingOrders x = Made.small();
         x.endWeek();
         x.addOrder(3, 1);
         x.change(1, 10, 5);
@@ -508,7 +471,7 @@ public final class PromisesTest {
 
     // Promise 14
     private static void hours() {
-        MeetingOrders x = atWeek(small(), 3);
+        MeetingOrders x = Made.atWeek(Made.small(), 3);
         x.change(0, 4, 6);
         Check.same("14: a past week", x.hours(0, 0), 2);
         Check.same("14: the present week", x.hours(0, 3), 2);
@@ -521,14 +484,14 @@ public final class PromisesTest {
 
     // Promise 15
     private static void owed() {
-        MeetingOrders x = small();
+        MeetingOrders x = Made.small();
         Check.same("15: the first week", x.owed(0, 0), 2);
         Check.same("15: the last week", x.owed(0, 19), 40);
         x.plan(0, 2, 0, 0, 0);
         Check.same("15: planned for a later week", x.owed(0, 1), 4);
         Check.same("15: planned for this week", x.owed(0, 2), 5);
         Check.same("15: planned for an earlier week", x.owed(0, 3), 7);
-        atWeek(x, 2);
+        Made.atWeek(x, 2);
         x.tell(0, true);
         Check.same("15: held in whatever week", x.owed(0, 0), 1);
         for (int day = 1; day < 4; day++) {
@@ -548,7 +511,7 @@ public final class PromisesTest {
 
     // Promise 16
     private static void meeting() {
-        MeetingOrders x = large();
+        MeetingOrders x = Made.large();
         x.plan(7, 0, 26, 5, 4);
         x.plan(3, 12, 9, 2, 1);
         meetingIs("16", x, 0, 7, 0, 26, 5, 4, 0);
@@ -565,7 +528,7 @@ public final class PromisesTest {
 
     // Promise 17
     private static void escort() {
-        MeetingOrders x = small();
+        MeetingOrders x = Made.small();
         x.addEscort(5, 3);
         int[] due = {5, 3, 0, 0};
         for (int what = 0; what <= 3; what++) {
@@ -592,7 +555,7 @@ public final class PromisesTest {
 
     // Promise 18
     private static void freeRooms() {
-        MeetingOrders x = large();
+        MeetingOrders x = Made.large();
         Check.same("18: none taken", x.freeRooms(1, 0, 6), 4);
         x.plan(0, 0, 6, 0, 1);
         x.plan(1, 0, 6, 1, 1);
@@ -623,8 +586,8 @@ public final class PromisesTest {
         x.addVenue(4);
         x.addVenue(4);
         x.addVenue(4);
-        x.addEscort(ALL, 20);
-        x.addEscort(ALL, 20);
+        x.addEscort(Made.ALL, 20);
+        x.addEscort(Made.ALL, 20);
         x.addOrder(2, 7);
         x.addOrder(3, 7);
         x.addOrder(0, 7);
@@ -653,8 +616,8 @@ public final class PromisesTest {
         MeetingOrders x = new MeetingOrders();
         x.addVenue(1);
         x.addVenue(1);
-        x.addEscort(ALL, 2);
-        x.addEscort(ALL - 128, 20);
+        x.addEscort(Made.ALL, 2);
+        x.addEscort(Made.ALL - 128, 20);
         x.addOrder(1, 1);
         x.addOrder(1, 3);
         x.endWeek();
@@ -688,7 +651,7 @@ public final class PromisesTest {
 
     /** Takes away the reasons one by one, from the first to the last. */
     private static void whyTellsTheFirstReason() {
-        MeetingOrders x = large();
+        MeetingOrders x = Made.large();
         x.planWeek(1);
         x.allow(0, 30);
         x.setSlots(0, 0);
@@ -700,7 +663,7 @@ public final class PromisesTest {
         Check.same("20: the venue first", x.why(0, 2, 0, 0, 0), 2);
         x.allow(0, 31);
         Check.same("20: the slot before the room", x.why(0, 2, 0, 0, 0), 4);
-        x.setSlots(0, ALL);
+        x.setSlots(0, Made.ALL);
         Check.same("20: the room before the 60", x.why(0, 2, 0, 0, 0), 7);
         Check.same("20: the 60 last", x.why(0, 2, 0, 0, 1), 8);
         Check.same("20: the escort before the room", x.why(0, 2, 0, 1, 0), 5);
@@ -715,12 +678,12 @@ public final class PromisesTest {
 
         MeetingOrders y = new MeetingOrders();
         y.addVenue(1);
-        y.addEscort(ALL, 1);
+        y.addEscort(Made.ALL, 1);
         y.addOrder(1, 1);
         y.addOrder(1, 1);
         y.plan(0, 0, 0, 0, 0);
         Check.same("20: the slot of the escort before the limit", y.why(1, 0, 0, 0, 0), 5);
-        y.addEscort(ALL, 1);
+        y.addEscort(Made.ALL, 1);
         y.plan(1, 0, 4, 1, 0);
         Check.same("20: the limit before the room", y.why(1, 0, 0, 1, 0), 6);
     }
@@ -752,7 +715,7 @@ public final class PromisesTest {
         Check.refused(x, "21: week -1", ARGUMENT, () -> x.firstSlot(0, -1));
         Check.refused(x, "21: order 3", INDEX, () -> x.firstSlot(3, 0));
         Check.refused(x, "21: order -1 and week 20", INDEX, () -> x.firstSlot(-1, 20));
-        MeetingOrders y = large();
+        MeetingOrders y = Made.large();
         y.planWeek(1);
         y.plan(0, 0, 0, 0, 0);
         y.plan(1, 0, 0, 1, 0);
@@ -780,7 +743,7 @@ public final class PromisesTest {
         Check.refused(x, "22: a past week", STATE, () -> x.owedBehind(0));
         Check.refused(x, "22: week 20", ARGUMENT, () -> x.owedBehind(20));
         Check.refused(x, "22: week -1", ARGUMENT, () -> x.owedBehind(-1));
-        MeetingOrders y = large();
+        MeetingOrders y = Made.large();
         y.planWeek(0);
         Check.same("22: 60 are kept", y.owedBehind(1), 52);
     }
@@ -803,7 +766,7 @@ public final class PromisesTest {
         x.change(0, 0, 0);
         Check.same("23: the present week", x.settledIn(), 0);
         x.change(0, 19, 2);
-        atWeek(x, 19);
+        Made.atWeek(x, 19);
         Check.same("23: the last week is looked at", x.settledIn(), 19);
         x.plan(0, 19, 0, 0, 0);
         Check.same("23: with meetings that are planned", x.settledIn(), 19);
@@ -822,7 +785,7 @@ public final class PromisesTest {
     }
 
     private static void settledInDropsMeetings() {
-        MeetingOrders x = large();
+        MeetingOrders x = Made.large();
         x.planWeek(0);
         x.planWeek(1);
         for (int order = 0; order < 8; order++) {
@@ -839,9 +802,9 @@ public final class PromisesTest {
     private static void gainBy() {
         MeetingOrders x = new MeetingOrders();
         x.addVenue(1);
-        x.addEscort(ALL, 2);
+        x.addEscort(Made.ALL, 2);
         x.addEscort(1, 1);
-        x.addEscort(ALL, 20);
+        x.addEscort(Made.ALL, 20);
         x.setSlots(2, 0);
         x.addOrder(5, 1);
         long before = x.digest();
@@ -861,10 +824,10 @@ public final class PromisesTest {
 
     // Promise 25
     private static void kept() {
-        MeetingOrders x = small();
+        MeetingOrders x = Made.small();
         x.planWeek(2);
         Check.same("25: none told", x.kept(), 1.0);
-        atWeek(x, 2);
+        Made.atWeek(x, 2);
         x.tell(0, false);
         Check.same("25: none held", x.kept(), 0.0);
         x.tell(1, true);
@@ -872,7 +835,7 @@ public final class PromisesTest {
         Check.same("25: two of three", x.kept(), 2.0 / 3.0);
         x.endWeek();
         Check.same("25: those that the end of the week missed count", x.kept(), 2.0 / 6.0);
-        atWeek(x, 10);
+        Made.atWeek(x, 10);
         Check.same("25: those that are not kept any more count", x.kept(), 2.0 / 6.0);
     }
 
@@ -895,7 +858,7 @@ public final class PromisesTest {
     // Promise 27
     private static void clearText() {
         MeetingOrders x = new MeetingOrders();
-        write(x, "w;w;");
+        Made.write(x, "w;w;");
         Check.same("27: the length", x.clearText(), 4);
         Check.same("27: it is empty", x.clearText(), 0);
         Check.same("27: no order is left", x.carryOut(), 0);
@@ -906,8 +869,8 @@ public final class PromisesTest {
 
     // Promise 28
     private static void carryOut() {
-        MeetingOrders x = small();
-        write(x, "c03:4;p03;h0;w;p19;h08;");
+        MeetingOrders x = Made.small();
+        Made.write(x, "c03:4;p03;h0;w;p19;h08;");
         Check.same("28: all but the last", x.carryOut(), 2);
         Check.same("28: the hours", x.hours(0, 3), 4);
         Check.same("28: the week 3 is planned", x.value(3), 7);
@@ -915,7 +878,7 @@ public final class PromisesTest {
         x.undo();
         Check.same("28: one saved state", x.hours(0, 3), 2);
         Check.same("28: the text stays", x.clearText(), 23);
-        write(x, "p0;m00;h1;w;c01:7;c001:6;p1;w;");
+        Made.write(x, "p0;m00;h1;w;c01:7;c001:6;p1;w;");
         Check.same("28: all", x.carryOut(), 8);
         Check.same("28: missed", x.meeting(0, 5), 2);
         Check.same("28: held", x.meeting(1, 5), 1);
@@ -926,28 +889,28 @@ public final class PromisesTest {
         Check.same("28: the week", x.value(4), 0);
         Check.same("28: the meetings", x.value(5), 0);
         MeetingOrders y = new MeetingOrders();
-        write(y, "");
+        Made.write(y, "");
         Check.same("28: no orders", y.carryOut(), 0);
         Check.same("28: saved all the same", y.undo(), 0);
-        write(y, "w;".repeat(19) + "p19;".repeat(15));
+        Made.write(y, "w;".repeat(19) + "p19;".repeat(15));
         Check.same("28: many orders", y.carryOut(), 34);
-        MeetingOrders z = large();
-        write(z, "c719:0;w;w;");
+        MeetingOrders z = Made.large();
+        Made.write(z, "c719:0;w;w;");
         Check.same("28: the highest order", z.carryOut(), 3);
         Check.same("28: its hours", z.hours(7, 19), 0);
-        write(z, "w;");
+        Made.write(z, "w;");
         Check.same("28: nothing of an earlier text is carried out", z.carryOut(), 1);
         Check.same("28: one week more", z.value(4), 3);
-        write(z, "w");
+        Made.write(z, "w");
         Check.same("28: nothing of an earlier text is read", z.carryOut(), -11);
     }
 
     private static void carryOutStops() {
         Consumer<String> stops = text -> {
-            MeetingOrders x = atWeek(small(), 1);
+            MeetingOrders x = Made.atWeek(Made.small(), 1);
             x.planWeek(1);
             x.plan(0, 2, 0, 0, 0);
-            write(x, "c019:1;" + text + "c019:7;");
+            Made.write(x, "c019:1;" + text + "c019:7;");
             Check.same("28: one before " + text, x.carryOut(), 1);
             Check.same("28: the one before " + text, x.hours(0, 19), 1);
             Check.same("28: saved states behind " + text, x.undo(), 3);
@@ -959,15 +922,15 @@ public final class PromisesTest {
         stops.accept("m5;");
         stops.accept("h4;");
         stops.accept("m4;");
-        MeetingOrders x = atWeek(small(), 18);
-        write(x, "w;w;w;");
+        MeetingOrders x = Made.atWeek(Made.small(), 18);
+        Made.write(x, "w;w;w;");
         Check.same("28: the last week cannot be ended", x.carryOut(), 1);
         Check.same("28: the last week", x.value(4), 19);
-        write(x, "p18;");
+        Made.write(x, "p18;");
         Check.same("28: none, a past week", x.carryOut(), 0);
         Check.same("28: saved even so", x.undo(), 3);
-        MeetingOrders y = atWeek(small(), 19);
-        write(y, "p19;h0;h0;");
+        MeetingOrders y = Made.atWeek(Made.small(), 19);
+        Made.write(y, "p19;h0;h0;");
         Check.same("28: held twice", y.carryOut(), 2);
         Check.same("28: held once", y.value(6), 1);
     }
@@ -980,16 +943,16 @@ public final class PromisesTest {
             "m", "1", "m100;", "3", "w", "1", "w1", "1", "ww", "1", ";", "0", " w;", "0", "w; ", "2", "W;", "0", "w;;", "2",
             "w;c", "3", "w;p20;w;", "3", "x", "0", "c-1", "1", "p+1", "1", "c 0", "1", "c00 :1;", "3"};
         for (int i = 0; i < texts.length; i += 2) {
-            MeetingOrders x = small();
-            write(x, texts[i]);
+            MeetingOrders x = Made.small();
+            Made.write(x, texts[i]);
             long before = x.digest();
             Check.same("28: the error of " + texts[i], x.carryOut(), -10 - Integer.parseInt(texts[i + 1]));
             Check.same("28: nothing changes by " + texts[i], x.digest(), before);
         }
-        MeetingOrders x = small();
-        write(x, "w;".repeat(49) + "p1");
+        MeetingOrders x = Made.small();
+        Made.write(x, "w;".repeat(49) + "p1");
         Check.same("28: the error at the end of a full text", x.carryOut(), -110);
-        write(x, "w;".repeat(50));
+        Made.write(x, "w;".repeat(50));
         Check.same("28: fifty orders", x.carryOut(), 19);
     }
 
@@ -1007,7 +970,7 @@ public final class PromisesTest {
         }
         Check.refused(x, "29: the oldest were dropped", STATE, x::undo);
         Check.same("29: what is left", x.value(1), 2);
-        MeetingOrders y = small();
+        MeetingOrders y = Made.small();
         y.planWeek(0);
         y.tell(0, true);
         y.append('w');
@@ -1048,7 +1011,7 @@ public final class PromisesTest {
         saves("change", 1, x -> x.change(0, 0, 2));
         saves("allow", 1, x -> x.allow(0, 1));
         saves("addEscort", 1, x -> x.addEscort(0, 1));
-        saves("setSlots", 1, x -> x.setSlots(0, ALL));
+        saves("setSlots", 1, x -> x.setSlots(0, Made.ALL));
         saves("addVenue", 1, x -> x.addVenue(1));
         saves("plan", 1, x -> x.plan(0, 0, 4, 0, 0));
         saves("planWeek", 1, x -> x.planWeek(5));
@@ -1075,7 +1038,7 @@ public final class PromisesTest {
     }
 
     private static void saves(String name, int due, Consumer<MeetingOrders> call) {
-        MeetingOrders x = small();
+        MeetingOrders x = Made.small();
         x.plan(0, 0, 0, 0, 0);
         x.endWeek();
         x.undo();
@@ -1090,7 +1053,7 @@ public final class PromisesTest {
     private static int savedStates(MeetingOrders x, LongSupplier call) {
         call.getAsLong();
         long digest = x.digest();
-        long without = digestWithout(x);
+        long without = digestWithout(() -> x);
         return (int) (digest - 31 * without);
     }
 
@@ -1108,39 +1071,72 @@ public final class PromisesTest {
             one *= 31;
         }
         Check.same("30: the text counts by its length", x.digest(), one);
-        MeetingOrders y = large();
-        y.planWeek(3);
-        y.plan(1, 0, 13, 4, 2);
-        y.plan(1, 0, 17, 4, 2);
-        y.change(3, 7, 2);
-        y.allow(2, 5);
-        y.setSlots(1, 77);
-        y.cancel(7);
-        y.tell(56, true);
-        y.tell(57, false);
-        y.append('w');
-        y.append(';');
-        y.append('w');
-        Check.same("30: a large one", y.digest(), 31 * digestWithout(y) + 4);
-        y.undo();
-        Check.same("30: the saved states count", y.digest(), 31 * digestWithout(y) + 3);
-        MeetingOrders z = new MeetingOrders();
-        z.addVenue(1);
-        z.addOrder(7, 0);
-        Check.same("30: settledIn() is NONE", z.digest(), 31 * digestWithout(z) + 2);
+        digestIs("30: a large one", PromisesTest::largeAndTold, 4);
+        digestIs("30: the saved states count", () -> {
+            MeetingOrders y = largeAndTold();
+            y.undo();
+            return y;
+        }, 3);
+        digestIs("30: settledIn() is NONE", () -> {
+            MeetingOrders y = new MeetingOrders();
+            y.addVenue(1);
+            y.addOrder(7, 0);
+            return y;
+        }, 2);
     }
 
-    /** The digest by the calls of the face, before the last value goes in. */
-    private static long digestWithout(MeetingOrders x) {
+    private static MeetingOrders largeAndTold() {
+        MeetingOrders x = Made.large();
+        x.planWeek(3);
+        x.plan(1, 0, 13, 4, 2);
+        x.plan(1, 0, 17, 4, 2);
+        x.change(3, 7, 2);
+        x.allow(2, 5);
+        x.setSlots(1, 77);
+        x.cancel(7);
+        x.tell(56, true);
+        x.tell(57, false);
+        x.append('w');
+        x.append(';');
+        x.append('w');
+        return x;
+    }
+
+    private static void digestIs(String what, Supplier<MeetingOrders> make, int saved) {
+        Check.same(what, make.get().digest(), 31 * digestWithout(make) + saved);
+    }
+
+    /**
+     * The digest by the calls of the face, before the last value goes in. Each part asks an object of its own, since one
+     * object is promised to answer 512 calls.
+     */
+    private static long digestWithout(Supplier<MeetingOrders> make) {
+        long h = digestOfNumbers(31 * 3739L, make.get());
+        h = digestOfOrders(h, make.get());
+        MeetingOrders x = make.get();
+        int next = x.value(9);
+        for (int number = 0; number < next; number++) {
+            h = digestOfMeeting(h, x, number);
+        }
+        return 31 * h + x.settledIn();
+    }
+
+    private static long digestOfNumbers(long start, MeetingOrders x) {
         int length = x.clearText();
         for (int i = 0; i < length; i++) {
             x.append('w');
         }
-        long h = 31 * 3739L + length;
+        long h = start + length;
         for (int what = 0; what <= 9; what++) {
             h = 31 * h + x.value(what);
         }
-        for (int i = 0; i < x.value(0); i++) {
+        return h;
+    }
+
+    private static long digestOfOrders(long start, MeetingOrders x) {
+        long h = start;
+        int orders = x.value(0);
+        for (int i = 0; i < orders; i++) {
             for (int what = 0; what <= 6; what++) {
                 h = 31 * h + x.order(i, what);
             }
@@ -1148,18 +1144,17 @@ public final class PromisesTest {
                 h = 31 * h + x.hours(i, week);
             }
         }
-        for (int i = 0; i < x.value(1); i++) {
+        int escorts = x.value(1);
+        for (int i = 0; i < escorts; i++) {
             for (int what = 0; what <= 3; what++) {
                 h = 31 * h + x.escort(i, what);
             }
         }
-        for (int i = 0; i < x.value(2); i++) {
+        int venues = x.value(2);
+        for (int i = 0; i < venues; i++) {
             h = 31 * h + x.freeRooms(i, 19, 27);
         }
-        for (int number = 0; number < x.value(9); number++) {
-            h = digestOfMeeting(h, x, number);
-        }
-        return 31 * h + x.settledIn();
+        return h;
     }
 
     private static long digestOfMeeting(long start, MeetingOrders x, int number) {
