@@ -7,7 +7,7 @@ public final class EdgesTest {
     }
 
     public static void main(String[] args) throws IOException {
-        Check.endWithin(120);
+        Check.endWithin(600);
         EdgesOfTerms.run();
         EdgesOfPlanning.run();
         EdgesOfText.run();

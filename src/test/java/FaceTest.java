@@ -58,7 +58,7 @@ public final class FaceTest {
     }
 
     public static void main(String[] args) throws Exception {
-        Check.endWithin(120);
+        Check.endWithin(600);
         face();
         source();
         Random random = new Random(11);

@@ -12,7 +12,7 @@ public final class PromisesTest {
     }
 
     public static void main(String[] args) {
-        Check.endWithin(120);
+        Check.endWithin(600);
         newObject();
         addOrder();
         change();
