@@ -330,6 +330,30 @@ final class EdgesOfTerms {
         factsAre("the first of planWeek()", x, 2, 1, 7, 0);
         factsAre("the second of planWeek()", x, 3, 2, 7, 0);
         Check.same("the number of the next", x.value(9), 58);
+        highNumbers();
+    }
+
+    /** About as many as can be planned within 512 calls. */
+    private static void highNumbers() {
+        MeetingOrders x = Made.large();
+        for (int week = 0; week < 20; week += 5) {
+            Made.atWeek(x, week);
+            int first = x.value(9);
+            Check.same("the week " + week, x.planWeek(week), 56);
+            Check.same("the last of the week " + week, x.meeting(first + 55, 1), week);
+        }
+        for (int i = 0; i < 7; i++) {
+            int first = 168 + 56 * i;
+            for (int number = first; number < first + 56; number++) {
+                Check.same("cancel(" + number + ")", x.cancel(number), 15);
+            }
+            Check.same("planned once more", x.planWeek(15), 56);
+            factsAre("the first of them", x, first + 56, 0, 15, 0, 0, 0, 0);
+        }
+        Check.same("planned so far", x.value(5), 616);
+        Check.same("the number of the next", x.value(9), 616);
+        Check.same("the next", x.plan(7, 16, 27, 5, 4), 616);
+        factsAre("the next", x, 616, 7, 16, 27, 5, 4, 0);
     }
 
     private static void numbersOfCancelled() {

@@ -303,11 +303,39 @@ final class EdgesOfValues {
             x.undo();
             Check.same("planned so far, by undo()", x.value(5), 59);
             Check.same("the next number, by undo()", x.value(9), 59);
+            mostTold(true, 240, 0, 0);
+            mostTold(false, 0, 240, 240);
         });
         Sentences.says("Throws `IllegalArgumentException` if what is out of range", () -> {
             Twins.refused("-1", ARGUMENT, MeetingOrders::new, x -> x.value(-1));
             Twins.refused("10", ARGUMENT, MeetingOrders::new, x -> x.value(10));
         });
+    }
+
+    /** As many as 20 weeks have room for, when 60 are kept at a time. */
+    private static void mostTold(boolean held, int allHeld, int allMissed, int owed) {
+        MeetingOrders x = new MeetingOrders();
+        x.addVenue(1);
+        x.addEscort(Made.ALL, 12);
+        x.addOrder(6, 1);
+        x.addOrder(6, 1);
+        for (int week = 0; week < 20; week++) {
+            Made.atWeek(x, week);
+            Check.same("planned in the week " + week, x.planWeek(week), 12);
+            for (int i = 0; i < 12; i++) {
+                x.tell(12 * week + i, held);
+            }
+        }
+        Check.same("kept", x.value(3), 60);
+        Check.same("held so far", x.value(6), allHeld);
+        Check.same("missed so far", x.value(7), allMissed);
+        Check.same("owed", x.value(8), owed);
+        for (int order = 0; order < 2; order++) {
+            Check.same("held so far, of the order " + order, x.order(order, 2), allHeld / 2);
+            Check.same("missed so far, of the order " + order, x.order(order, 3), allMissed / 2);
+        }
+        Check.same("held so far, with the escort", x.escort(0, 3), allHeld);
+        Check.same("the share that was held", x.kept(), held ? 1.0 : 0.0);
     }
 
     private static void why() {
